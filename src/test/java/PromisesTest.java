@@ -686,6 +686,17 @@ public final class PromisesTest {
         }
         number("the whole chain", x.goalAt(39, 9999), 1);
         number("not yet", x.goalAt(39, 9998), 0);
+        x = new MentorPairs();
+        people(1);
+        for (int i = 0; i < 40; i++) {
+            number("goal", x.goal(0, 9999, i - 1), i);
+            if (i > 0) {
+                yes("confirm", x.confirm(i, 5));
+            }
+        }
+        number("the first of the chain is not reached", x.goalAt(39, 9999), 0);
+        yes("confirm(0, 5)", x.confirm(0, 5));
+        number("the first of the chain is reached", x.goalAt(39, 5), 1);
     }
 
     private static void goalChains() {
@@ -843,6 +854,9 @@ public final class PromisesTest {
                 no("such a set", trial(0, 3, bad), 5);
             }
             no("an outcome above 100", trial(0, 4, 1), 5);
+            x.write(0, 0, 101);
+            no("the first outcome above 100", trial(0, 2, 1), 5);
+            x.write(0, 0, 50);
             x.write(0, 3, 100);
             no("an outcome below 0", trial(0, 5, 1), 5);
             due("upper() stays", x.upper(), 0);
@@ -872,6 +886,8 @@ public final class PromisesTest {
         }
         none("such a seed", x.draw(4, 2, -1), 5);
         none("such a seed", x.draw(4, 2, LOW), 5);
+        number("one of one", x.draw(1, 1, 0), 1);
+        number("none of one", x.draw(1, 0, HIGH), 0);
         number("none", x.draw(16, 0, 12345), 0);
         number("all", x.draw(16, 16, 12345), 65535);
         number("as the document's shared test has it", x.draw(4, 2, 1), 10);
