@@ -76,12 +76,25 @@ public final class FaceTest {
         require(type.getDeclaredClasses().length <= 12, "at most twelve classes");
         for (Class<?> nested : type.getDeclaredClasses()) {
             require(Modifier.isStatic(nested.getModifiers()), nested + " is static");
+            checkSize(nested);
             for (Method m : nested.getDeclaredMethods()) {
                 require(!publicNames.contains(m.getName()), m + " bears a name of its own");
             }
         }
+        checkSize(type);
         for (Method m : type.getDeclaredMethods()) {
             require(Modifier.isPublic(m.getModifiers()) || !publicNames.contains(m.getName()), m + " bears a name of its own");
+        }
+    }
+
+    private static void checkSize(Class<?> type) {
+        int fields = 0;
+        for (Field f : type.getDeclaredFields()) {
+            fields += Modifier.isStatic(f.getModifiers()) ? 0 : 1;
+        }
+        require(fields <= 20, type + " has at most twenty fields");
+        for (Method m : type.getDeclaredMethods()) {
+            require(m.getParameterCount() <= 7, m + " has at most seven parameters");
         }
     }
 
@@ -102,6 +115,7 @@ public final class FaceTest {
         }
         require(!code.contains("->") && !code.contains("::"), "no lambda, no method reference");
         require(!code.contains("package "), "no package line");
+        require(!code.contains("Exact("), "none of the functions whose name ends in Exact");
         for (String line : code.split("\n")) {
             require(!line.startsWith("import ") || line.equals("import java.util.Arrays;"), "only Arrays is taken from the library: " + line);
         }
