@@ -624,6 +624,9 @@ public final class StatusTest extends Checks {
         is(1, x.meeting(0, 10));
         is(2, x.goal(0, 10, NONE));
 
+        likingsStay();
+        placesStay();
+
         sentence("changes nothing: a refused TRAY stays MISSING");
         no(5, x.tray(0, 0, 41));
         no(6, x.tray(0, 0, -1));
@@ -647,6 +650,49 @@ public final class StatusTest extends Checks {
         like(0, 2, 1, 1);
         is(3, x.change(1));
         pairsAre(1, 2, 0);
+    }
+
+    /** Beginner 0 and elder 0 are each liked a little less than others, and so they stay. */
+    private static void likingsStay() {
+        sentence("changes nothing: a LIKING stays, where another one was refused");
+        elders(1, 1);
+        beginners(2);
+        like(0, 0, 50, 50);
+        like(1, 0, 50, 51);
+        like(0, 1, 51, 50);
+        for (boolean byElder : new boolean[] {true, false}) {
+            for (int bad : outside(0, 100)) {
+                no(5, x.like(0, 0, byElder, bad));
+            }
+        }
+        is(2, x.pair());
+        pairsAre(1, 0);
+        yes(x.bar(1, 0, true));
+        is(1, x.pair());
+        pairsAre(NONE, 0);
+        yes(x.bar(0, 1, true));
+        is(1, x.pair());
+        pairsAre(0, NONE);
+    }
+
+    private static void placesStay() {
+        sentence("changes nothing: PLACES stay, where one ELDER too many, or other PLACES, were refused");
+        elders(0, 1, 1, 1, 1, 1, 1, 1, 1, 1, 1, 3);
+        beginners(5);
+        for (int b = 0; b < 5; b++) {
+            like(0, b, 1, 1);
+            like(11, b, 1, 1);
+        }
+        none(7, x.elder(0));
+        none(7, x.elder(4));
+        for (int bad : outside(0, 4)) {
+            none(5, x.elder(bad));
+            no(5, x.places(0, bad));
+            no(5, x.places(11, bad));
+        }
+        is(3, x.pair());
+        is(0, x.has(0));
+        is(3, x.has(11));
     }
 
     private static void noStatusOfTheirOwn() {
