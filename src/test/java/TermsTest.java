@@ -510,6 +510,7 @@ public final class TermsTest extends Checks {
         changeOfOneInAPair();
         barredFromThenOn();
         pairsThatCanBe();
+        otherPairsStay();
         inNoneStayInNone();
         anotherElder();
         placeOfTheNext();
@@ -587,6 +588,20 @@ public final class TermsTest extends Checks {
         yes(x.like(2, 1, false, 1));
         is(2, x.change(0));
         pairsAre(1, 2);
+    }
+
+    /** A reading: who is not in the row is not moved, even from a pair that CAN'T be any more. */
+    private static void otherPairsStay() {
+        sentence("what is told later does not touch it by itself: not by a CHANGE of another one");
+        elders(1, 1, 1);
+        beginners(2);
+        like(0, 0, 9, 9);
+        like(1, 1, 9, 9);
+        is(2, x.pair());
+        yes(x.bar(1, 1, true));
+        like(2, 0, 1, 1);
+        is(1, x.change(0));
+        pairsAre(2, 1);
     }
 
     private static void inNoneStayInNone() {
