@@ -118,6 +118,12 @@ public final class FaceTest {
         require(!code.contains("Exact("), "none of the functions whose name ends in Exact");
         for (String line : code.split("\n")) {
             require(!line.startsWith("import ") || line.equals("import java.util.Arrays;"), "only Arrays is taken from the library: " + line);
+            require(!line.matches(".*\\b(new|copyOf|copyOfRange|clone)\\b.*") || isMadeWithTheObject(line), "no call makes an object: " + line);
         }
+    }
+
+    // All calls of a run live in one room, so whatever is made is made once, with the object.
+    private static boolean isMadeWithTheObject(String line) {
+        return line.matches(" +private final [\\w\\[\\]]+ \\w+ = new [^;]*;") || line.trim().equals("trays[t] = new Tray();");
     }
 }
